@@ -157,6 +157,7 @@ public final class RelayHall {
     private final ArrayList<Queue> targets = new ArrayList<Queue>();
     private final Log log = new Log();
     private final Reader in = new Reader();
+    private final StringBuilder words = new StringBuilder();
     // The method that an error is told of.
     private int blame = 0;
     private int clock = 0;
@@ -1058,8 +1059,11 @@ public final class RelayHall {
         return wanted;
     }
 
-    private static String numbered(String start, int number) {
-        return new StringBuilder().append(start).append(number).toString();
+    private String numbered(String start, int number) {
+        words.setLength(0);
+        words.append(start);
+        words.append(number);
+        return words.toString();
     }
 
     private int freeNumber() {
