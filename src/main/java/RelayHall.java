@@ -1524,11 +1524,7 @@ public final class RelayHall {
     }
 
     private void removeConsumer(int at) {
-        Consumer consumer = consumers.remove(at);
-        Queue q = consumer.queue;
-        if (q.lastServed == consumer) {
-            q.lastServed = null;
-        }
+        Queue q = consumers.remove(at).queue;
         if (q.autoDelete && !q.gone && consumersOf(q) == 0) {
             removeQueue(q);
         }
@@ -1561,6 +1557,7 @@ public final class RelayHall {
 
     private Consumer nextConsumer(Queue q) {
         int count = consumers.size();
+        // From the first one if the last that was served is not there any more.
         int first = 0;
         for (int i = 0; i < count; i++) {
             if (consumers.get(i) == q.lastServed) {

@@ -78,7 +78,12 @@ public final class ChannelTest {
         }
         k.total(1, 0);
         k.soft(0, 404, 60, 70, "1 60.70 ' 0");
+        k.say(0, "1 60.10 1:2 0", "1 60.10 1:2 1", "1 20.20 0", "1 20.40 0:2 ' 0:2 0:2", "1 20.10");
+        k.readAll(0);
         k.ask(0, "1 60.20 'q ' 0", "1 60.21 'ctag-1");
+        k.publish(0, "", "q", "x");
+        k.publish(0, "", "q", "y");
+        k.channel(0, 1, 1, 2);
     }
 
     private static void flow() {
@@ -139,6 +144,8 @@ public final class ChannelTest {
         k.ask(0, "1 60.120 4:4 3");
         k.ready("q", 3);
         k.ask(0, "1 60.70 'q 0", "1 60.71 5:4 1 ' 'q 2:4", "1 H 60:2 1:4 0:2", "1 B 2");
+        k.ask(0, "1 60.90 5:4 1");
+        k.ask(0, "1 60.70 'q 0", "1 60.71 6:4 1 ' 'q 2:4", "1 H 60:2 1:4 0:2", "1 B 2");
         k.ask(0, "1 60.120 0:4 1");
         k.total(7, 2);
         k.total(1, 2);
@@ -313,6 +320,17 @@ public final class ChannelTest {
         k.tick(1, 4);
         k.hear(0);
         k.channel(0, 1, 5, 0);
+        k.openChannel(0, 3);
+        k.say(0, "3 85.10 1", "3 60.40 ' 'kept 0", "3 H 60:2 0:4 2:2 1", "1 85.10 1");
+        k.publish(0, "", "kept", "2:2 1", "f");
+        k.hear(0);
+        k.tick(1, 5);
+        k.hear(0, "1 60.80 1:4 0", "3 60.80 1:4 0");
+        k.publish(0, "", "kept", "2:2 1", "g");
+        k.crash(1, 6);
+        k.open(0, 0);
+        k.tick(1, 6);
+        k.hear(0);
     }
 
     private static void confirmsBehindReturn() {

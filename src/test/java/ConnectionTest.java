@@ -232,6 +232,7 @@ public final class ConnectionTest {
             k.connected(0, 0, 6);
             k.tick(1, 20);
             k.connected(0, 0, 0);
+            k.open(0);
         }
         Kit k = new Kit("a frame of 400 bytes");
         k.open(0);
@@ -282,7 +283,9 @@ public final class ConnectionTest {
             {502, 50, 10, "1 50.10 'q 0 {} 0"}, {502, 50, 10, "1 50.10 '" + Kit.repeat("q", 41) + " 0 {}"},
             {502, 50, 10, "1 50.10 'q 0 {a=Q1}"}, {502, 50, 10, "1 50.10 'q 0 {a=S" + Kit.repeat("s", 41) + "}"},
             {502, 50, 10, "1 50.10 'q 0 5:4"}, {502, 50, 10, "1 50.10 'q 0 3:4 '"}, {502, 50, 10, "1 50.10 'q 0 {a=t1,a=" + "I1} 1"},
-            {502, 50, 10, "1 50.10 'q 0 {" + Kit.repeat(Kit.repeat("n", 13) + "=t1,", 9) + Kit.repeat("n", 15) + "=I1}"},
+            {502, 50, 10, "1 50.10 'q 0 {" + Kit.repeat(Kit.repeat("n", 13) + "=t1,", 9) + Kit.repeat("n", 11) + "=I1}"},
+            {502, 50, 10, "1 50.10 'q 0 3:4 'ab"}, {502, 50, 10, "1 50.10 'q 0 5:4 'a 83 0:2"}, {502, 50, 10, "1 50.10 'q 0 {" + Kit.repeat("n", 41) + "=t1}"},
+            {502, 50, 10, "1 50.10 'q 0 7:4 'a 83 4294967295:4"}, {502, 50, 10, "1 50.10 'q 0 4:4 'a 73 0"},
             {502, 60, 80, "1 60.80 1:4"}, {540, 60, 110, "1 60.110 0"}, {502, 60, 110, "1 60.110"}, {540, 60, 0, "1 60.0"},
             {540, 65535, 65535, "3 65535.65535"}, {503, 65535, 10, "0 65535.10"},
         };
@@ -299,6 +302,7 @@ public final class ConnectionTest {
         k = new Kit("a table of 160 bytes");
         k.open(0);
         k.ask(0, "1 50.10 'q 0 {" + Kit.repeat(Kit.repeat("n", 13) + "=t1,", 9) + Kit.repeat("n", 10) + "=I1}", "1 50.11 'q 0:4 0:4");
+        k.ask(0, "1 50.10 'r 0 {" + Kit.repeat("n", 40) + "=t1}", "1 50.11 'r 0:4 0:4");
         k.ask(0, "1 50.10 '" + Kit.repeat("q", 40) + " 0 {a=S" + Kit.repeat("s", 40) + "}", "1 50.11 '" + Kit.repeat("q", 40) + " 0:4 0:4");
     }
 
@@ -403,6 +407,14 @@ public final class ConnectionTest {
         k.total(2, 1);
         k.total(5, 1);
         k.hear(1, "1 60.60 'b 1:4 1 ' 'q", "1 H 60:2 1:4 0:2", "1 B x");
+        k.openChannel(1, 3);
+        k.say(1, "1 60.80 1:4 0", "3 60.20 'q 'c 8");
+        k.publish(1, "", "q", "y");
+        k.publish(1, "", "q", "z");
+        k.queue(0, 1, 2);
+        k.hall.cut(1);
+        k.ready("q", 2);
+        k.total(5, 0);
     }
 
     private static void heartbeats() {
@@ -426,7 +438,9 @@ public final class ConnectionTest {
         k.tick(1, 11);
         k.hear(0, "0 8");
         k.sendBytes(0, new byte[] {8});
-        k.tick(5, 16);
+        k.tick(2, 13);
+        k.due("an empty tape is no byte", k.hall.send(0), 5);
+        k.tick(3, 16);
         k.hear(0, "0 8");
         k.tick(1, 17);
         k.connected(0, 0, 0);
@@ -458,5 +472,15 @@ public final class ConnectionTest {
         byte[] all = k.readAll(0);
         k.due("the ring's bytes", all[all.length - 13] & 255, 1);
         k.due("the ring's last byte", all[4999] & 255, 206);
+        for (int left = 3; left <= 4; left++) {
+            k.open(0);
+            for (int i = 0; i < 384; i++) {
+                k.say(0, "1 20.20 1");
+            }
+            k.hall.read(0, left);
+            k.sayDue(0, left == 3 ? 0 : 5, "1 90.10");
+            k.due("5000 at most", k.hall.waiting(0), left == 3 ? 4989 : 5000);
+            k.hall.cut(0);
+        }
     }
 }

@@ -220,7 +220,10 @@ public final class CrashTest {
         k.queue(0, 5, 1);
         k.exchange(0, 2, 1);
         k.open(0);
-        k.ask(0, "1 60.70 'q 1", "1 60.71 1:4 1 ' 'q 0:4", "1 H 60:2 1:4 2:2 1", "1 B a");
+        k.say(0, "1 60.70 'q 0", "1 60.90 1:4 1");
+        k.readAll(0);
+        k.ready("q", 1);
+        k.ask(0, "1 60.70 'q 1", "1 60.71 2:4 1 ' 'q 0:4", "1 H 60:2 1:4 2:2 1", "1 B a");
         k.total(6, 1);
     }
 

@@ -122,6 +122,8 @@ public final class ExchangeTest {
         k.ask(0, "1 50.50 'r 'a 'x {}", "1 50.51");
         k.total(3, 0);
         k.total(6, 9);
+        k.say(0, "1 40.10 'unbound 'fanout 20 {}", "1 50.10 'other 16 {}", "1 50.40 'other 4");
+        k.total(3, 1);
         k.crash(8, 0);
         k.total(3, 1);
         k.total(4, 0);

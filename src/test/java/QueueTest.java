@@ -18,6 +18,7 @@ public final class QueueTest {
         deadLetters();
         deathsEnd();
         deadLetterKeys();
+        threeHundredWait();
         fullOfMessages();
         fullOfNumbers();
         Kit.end();
@@ -93,6 +94,8 @@ public final class QueueTest {
         }
         k.ask(0, "1 50.10 'p 0 {max=I1,ttl=I1,pri=I0}", "1 50.11 'p 0:4 0:4");
         k.ask(0, "1 50.10 'p 0 {ttl=I1,max=I1}", "1 50.11 'p 0:4 0:4");
+        k.ask(0, "1 50.10 'o 0 {ma=I0,maximum=I0,m=t1,=t2}", "1 50.11 'o 0:4 0:4");
+        k.ask(0, "1 50.10 'o 0 {}", "1 50.11 'o 0:4 0:4");
     }
 
     private static void exclusive() {
@@ -363,6 +366,23 @@ public final class QueueTest {
         k.total(1, 2);
         k.ask(0, "1 60.70 'own 1", "1 60.71 1:4 0 'dl 'q 0:4", "1 H 60:2 1:4 0:2", "1 B a");
         k.ask(0, "1 60.70 'told 1", "1 60.71 2:4 0 'dl ' 0:4", "1 H 60:2 1:4 0:2", "1 B b");
+    }
+
+    private static void threeHundredWait() {
+        Kit k = new Kit("threeHundredWait");
+        k.open(0);
+        k.say(0, "1 40.10 'f 'fanout 16 {}", "1 50.10 'c 16 {max=I50}");
+        for (int i = 0; i < 11; i++) {
+            k.say(0, "1 50.10 'q" + i + " 16 {max=I1,dlx=S,dlk=Sc}", "1 50.20 ' 'f ' 1 {}");
+        }
+        k.say(0, "1 90.10");
+        for (int i = 0; i < 32; i++) {
+            k.publish(0, "f", "", "");
+        }
+        k.say(0, "1 90.20");
+        k.total(1, 61);
+        // 31 of each of the eleven, then those of the 300 that were buried for which c had no room.
+        k.total(7, 341 + 250);
     }
 
     private static Kit withTwelve(String name, String table) {

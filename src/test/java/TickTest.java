@@ -139,6 +139,21 @@ public final class TickTest {
         k.connected(0, 0, 0);
         k.due("waiting", k.hall.waiting(0), 4992);
         k.hear(1, "1 60.80 1:4 0");
+        k = new Kit("what a confirm that does not fit sets free expires with this tick");
+        k.open(0);
+        k.say(0, "1 50.10 'q 18 {ttl=I1}", "1 85.10 1");
+        k.publish(0, "", "q", "2:2 1", "a");
+        k.say(0, "1 60.70 'q 0");
+        k.readAll(0);
+        for (int i = 0; i < 384; i++) {
+            k.say(0, "1 20.20 1");
+        }
+        k.connected(0, 0, 5);
+        k.queue(0, 1, 1);
+        k.tick(1, 1);
+        k.connected(0, 0, 0);
+        k.ready("q", 0);
+        k.total(7, 1);
     }
 
     private static void heartbeatDoesNotFit() {
