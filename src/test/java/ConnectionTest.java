@@ -295,7 +295,13 @@ public final class ConnectionTest {
             k.openChannel(0, 3);
             k.hard(0, (Integer) row[0], (Integer) row[1], (Integer) row[2], (String) row[3]);
         }
-        Kit k = new Kit("less than four bytes");
+        Kit k = new Kit("arguments behind wrong ones");
+        k.open(0);
+        k.hard(0, 502, 20, 20, "1 20.20");
+        k.sayDue(0, 0, "0 10.51");
+        k.open(0);
+        k.ask(0, "1 20.20 1", "1 20.21 1");
+        k = new Kit("less than four bytes");
         k.open(0);
         k.due("send", k.sendBytes(0, Kit.raw(1, 2, new byte[] {0, 10, 0})), 6);
         k.hear(0, "0 10.50 502:2 ' 0:2 0:2");
@@ -453,34 +459,24 @@ public final class ConnectionTest {
     private static void outIsFull() {
         Kit k = new Kit("outIsFull");
         k.open(0);
-        // An answer has 13 bytes.
-        for (int i = 0; i < 384; i++) {
-            k.say(0, "1 20.20 1");
-        }
-        k.due("waiting", k.hall.waiting(0), 4992);
-        k.due("it does not fit", k.say(0, "1 20.20 1"), 0);
-        k.due("nothing was sent", k.hall.waiting(0), 4992);
+        k.stuff(0, 12);
+        // Its answer has 13 bytes.
+        k.sayDue(0, 0, "1 20.20 1", "1 90.10");
+        k.due("nothing was sent", k.hall.waiting(0), 4988);
         k.open(0);
-        for (int i = 0; i < 384; i++) {
-            k.say(0, "1 20.20 1");
-        }
-        k.hall.read(0, 5);
+        k.ask(0, "1 20.20 1", "1 20.21 1");
+        k = new Kit("just full");
+        k.open(0);
+        k.stuff(0, 13);
         k.sayDue(0, 5, "1 20.20 1");
         k.due("just full", k.hall.waiting(0), 5000);
-        k.due("an error does not fit either", k.say(0, "1 99.9"), 0);
+        k.due("an error does not fit", k.say(0, "1 99.9"), 0);
         k.due("waiting", k.hall.waiting(0), 5000);
-        byte[] all = k.readAll(0);
-        k.due("the ring's bytes", all[all.length - 13] & 255, 1);
-        k.due("the ring's last byte", all[4999] & 255, 206);
-        for (int left = 3; left <= 4; left++) {
-            k.open(0);
-            for (int i = 0; i < 384; i++) {
-                k.say(0, "1 20.20 1");
-            }
-            k.hall.read(0, left);
-            k.sayDue(0, left == 3 ? 0 : 5, "1 90.10");
-            k.due("5000 at most", k.hall.waiting(0), left == 3 ? 4989 : 5000);
-            k.hall.cut(0);
-        }
+        k = new Kit("room by reading");
+        k.open(0);
+        k.stuff(0, 5);
+        k.due("a frame's first byte", k.hall.read(0, 8) >>> 56, 1);
+        k.sayDue(0, 5, "1 20.20 1");
+        k.due("just full", k.hall.waiting(0), 5000);
     }
 }

@@ -277,13 +277,6 @@ public final class ConsumerTest {
         k.soft(0, 406, 60, 80, "1 60.80 1:4 0");
     }
 
-    private static void stuff(Kit k, int c) {
-        for (int i = 0; i < 384; i++) {
-            k.say(c, "1 20.20 1");
-        }
-        k.due("waiting", k.hall.waiting(c), 4992);
-    }
-
     private static void doesNotFit() {
         Kit k = new Kit("doesNotFit");
         k.open(0);
@@ -291,7 +284,7 @@ public final class ConsumerTest {
         k.say(0, "1 50.10 'q 16 {}");
         k.say(1, "1 60.20 'q 'full 8", "1 50.10 'own 20 {}");
         k.readAll(1);
-        stuff(k, 1);
+        k.stuff(1, 8);
         k.say(0, "1 60.20 'q 'a 8");
         k.publish(0, "", "q", "x");
         k.connected(1, 0, 0);
@@ -306,7 +299,7 @@ public final class ConsumerTest {
         k.open(1);
         k.say(0, "1 50.10 'q 18 {}");
         k.say(1, "1 60.20 'q 'full 10");
-        stuff(k, 1);
+        k.stuff(1, 8);
         k.publish(0, "", "q", "2:2 1", "x");
         k.connected(1, 0, 0);
         k.total(1, 0);
@@ -321,24 +314,27 @@ public final class ConsumerTest {
         k.say(0, "1 50.10 'q 16 {}");
         k.publish(0, "", "q", "x");
         k.publish(0, "", "q", "y");
-        stuff(k, 1);
+        k.stuff(1, 8);
         k.sayDue(1, 0, "1 60.70 'q 0", "1 60.70 'q 0");
         k.ready("q", 2);
+        k = new Kit("gotDoesNotFit without ack");
+        k.open(0);
         k.open(1);
-        stuff(k, 1);
+        k.say(0, "1 50.10 'q 16 {}");
+        k.publish(0, "", "q", "x");
+        k.publish(0, "", "q", "y");
+        k.stuff(1, 8);
         k.sayDue(1, 0, "1 60.70 'q 1");
         k.ready("q", 1);
         k.ask(0, "1 60.70 'q 1", "1 60.71 1:4 0 ' 'q 0:4", "1 H 60:2 1:4 0:2", "1 B y");
+        k = new Kit("a return does not fit");
         k.open(1);
-        stuff(k, 1);
-        k.sayDue(1, 0, "1 90.10");
-        k.open(1);
-        k.say(1, "1 90.10");
+        k.say(1, "1 50.10 'q 16 {}", "1 90.10");
         k.say(1, Kit.publishing("", "q", 0, "0:2", "1"));
         k.say(1, Kit.publishing("", "none", 1, "0:2", "2"));
         k.say(1, Kit.publishing("", "q", 0, "0:2", "3"));
         k.readAll(1);
-        stuff(k, 1);
+        k.stuff(1, 8);
         k.sayDue(1, 0, "1 90.20");
         k.ready("q", 1);
     }

@@ -1,4 +1,5 @@
 import java.io.ByteArrayOutputStream;
+import java.util.ArrayList;
 import java.util.NoSuchElementException;
 
 /**
@@ -14,17 +15,31 @@ final class Kit {
 
     final RelayHall hall = new RelayHall();
     private final String name;
+    private int calls = 0;
+    private static Kit latest = null;
 
     Kit(String name) {
         this.name = name;
+        lookAtCalls();
+        latest = this;
+    }
+
+    /** Behind 512 calls of an object what it answers is free, so no test may go beyond them. */
+    private static void lookAtCalls() {
+        if (latest != null && latest.calls > 512) {
+            wrong++;
+            System.out.println(latest.name + ": made " + latest.calls + " calls, more than the document allows");
+        }
     }
 
     static void end() {
+        lookAtCalls();
         System.out.println(checks + " checks, " + wrong + " wrong");
         System.exit(wrong == 0 ? 0 : 1);
     }
 
     void due(String what, long got, long want) {
+        calls++;
         checks++;
         if (got != want) {
             wrong++;
@@ -144,13 +159,16 @@ final class Kit {
             if (typed + n > 420) {
                 state = hall.send(c);
                 typed = 0;
+                calls++;
             }
+            calls++;
             if (!hall.type(word, n)) {
                 due("type", 0, 1);
             }
             typed += n;
             at += n;
         }
+        calls++;
         return hall.send(c);
     }
 
@@ -163,10 +181,12 @@ final class Kit {
     }
 
     byte[] readAll(int c) {
+        calls++;
         byte[] out = new byte[hall.waiting(c)];
         for (int at = 0; at < out.length; ) {
             int n = Math.min(8, out.length - at);
             long word = hall.read(c, n);
+            calls++;
             for (int i = n - 1; i >= 0; i--) {
                 out[at + i] = (byte) word;
                 word >>>= 8;
@@ -274,6 +294,34 @@ final class Kit {
         String method = "1 60.40 '" + exchange + " '" + key + " " + bits;
         String header = "1 H 60:2 " + body.length() + ":4 " + flags;
         return body.isEmpty() ? new String[] {method, header} : new String[] {method, header, "1 B " + body};
+    }
+
+    /** Fills what waits on a connection until just so many bytes more would fit, by way of its channel 3. */
+    void stuff(int c, int room) {
+        say(c, "3 20.10", "3 50.10 'stuff 20 {}");
+        int left = 5000 - room - hall.waiting(c) - 12;
+        stuffMessage(c, 200);
+        ArrayList<String> frames = new ArrayList<>();
+        for (int tag = 1; left > 252 + 60; tag++) {
+            frames.add("3 60.70 'stuff 0");
+            frames.add("3 60.90 " + tag + ":4 1");
+            left -= 252;
+        }
+        frames.add("3 50.30 'stuff 1");
+        say(c, frames.toArray(new String[0]));
+        if (left > 252) {
+            stuffMessage(c, 100);
+            say(c, "3 60.70 'stuff 1");
+            left -= 152;
+        }
+        stuffMessage(c, left - 52);
+        say(c, "3 60.70 'stuff 1", "3 50.40 'stuff 4", "3 20.40 0:2 ' 0:2 0:2");
+        due("waiting", hall.waiting(c), 5000 - room);
+    }
+
+    /** A message of b bytes; what 60.70 sends of it has 52 more. */
+    private void stuffMessage(int c, int b) {
+        say(c, "3 60.40 ' 'stuff 0", "3 H 60:2 " + b + ":4 0:2", "3 B " + repeat("z", b));
     }
 
     /** 0 if read answers, 1 for NoSuchElementException, 2 for IndexOutOfBoundsException. */

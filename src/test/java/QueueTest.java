@@ -85,6 +85,8 @@ public final class QueueTest {
             k.soft(0, 406, 50, 10, "1 50.10 'q 0 {" + argument + "}");
         }
         k.total(2, 0);
+        k = new Kit("arguments that are others");
+        k.open(0);
         k.ask(0, "1 50.10 'q 0 {max=I0,max=I50,ttl=I1000,pri=I9,dlx=S,dlk=Sk}", "1 50.11 'q 0:4 0:4");
         k.ask(0, "1 50.10 'q 0 {dlk=Sk,dlx=S,pri=I9,ttl=I1000,max=I50,more=I1}", "1 50.11 'q 0:4 0:4");
         String[] other = {"max=I49,ttl=I1000,pri=I9,dlx=S,dlk=Sk", "max=I50,ttl=I1,pri=I9,dlx=S,dlk=Sk", "max=I50,ttl=I1000,dlx=S,dlk=Sk",
@@ -225,10 +227,7 @@ public final class QueueTest {
         k.say(0, "1 50.10 'q 24 {}");
         k.say(1, "1 60.20 'q 'a 8", "1 60.20 'q 'b 8", "1 50.10 'own 20 {}", "1 50.10 'side 24 {}", "1 60.20 'side 's 8");
         k.say(0, "1 60.20 'q 'c 8");
-        for (int i = 0; i < 384; i++) {
-            k.say(1, "1 20.20 1");
-        }
-        k.due("waiting", k.hall.waiting(1), 4992);
+        k.stuff(1, 8);
         k.ask(0, "1 50.40 'q 0", "1 60.30 'c 1", "1 50.41 0:4");
         k.connected(1, 0, 0);
         k.due("nothing was sent", k.hall.waiting(1), 4992);

@@ -132,9 +132,7 @@ public final class TickTest {
         k.say(1, "1 85.10 1");
         k.publish(0, "", "q", "2:2 1", "a");
         k.publish(1, "", "q", "2:2 1", "b");
-        for (int i = 0; i < 384; i++) {
-            k.say(0, "1 20.20 1");
-        }
+        k.stuff(0, 8);
         k.tick(1, 1);
         k.connected(0, 0, 0);
         k.due("waiting", k.hall.waiting(0), 4992);
@@ -145,9 +143,7 @@ public final class TickTest {
         k.publish(0, "", "q", "2:2 1", "a");
         k.say(0, "1 60.70 'q 0");
         k.readAll(0);
-        for (int i = 0; i < 384; i++) {
-            k.say(0, "1 20.20 1");
-        }
+        k.stuff(0, 8);
         k.connected(0, 0, 5);
         k.queue(0, 1, 1);
         k.tick(1, 1);
@@ -160,10 +156,7 @@ public final class TickTest {
         Kit k = new Kit("heartbeatDoesNotFit");
         k.open(0, 2);
         k.openChannel(0, 1);
-        for (int i = 0; i < 384; i++) {
-            k.say(0, "1 20.20 1");
-        }
-        k.due("waiting", k.hall.waiting(0), 4992);
+        k.stuff(0, 8);
         k.tick(2, 2);
         k.connected(0, 0, 5);
         k.due("a heartbeat still fits", k.hall.waiting(0), 5000);
