@@ -111,7 +111,7 @@ public final class RelayHall {
     private static final int TX_ROLLBACK_OK = 90 << 16 | 31;
 
     // Kinds of exchanges; the default one has a kind of its own.
-    private static final int DEFAULT = -1;
+    private static final int DEFAULT = 4;
     private static final int DIRECT = 0;
     private static final int FANOUT = 1;
     private static final int TOPIC = 2;
