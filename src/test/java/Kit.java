@@ -229,6 +229,20 @@ final class Kit {
         openChannel(c, 1);
     }
 
+    /** Brings a connection that is CLOSED to a STATE; what it was sent is read. */
+    void bring(int c, int state) {
+        due("connect(" + c + ")", hall.connect(c), true);
+        if (state >= 2) {
+            sendBytes(c, bytes(GREETING));
+        }
+        String[] frames = {"0 10.11 '", "0 10.31 3:2 400:4 0:2", "0 10.40 '", "1 99.9"};
+        for (int i = 3; i <= state; i++) {
+            say(c, frames[i - 3]);
+        }
+        readAll(c);
+        connected(c, 0, state);
+    }
+
     void openChannel(int c, int channel) {
         sayDue(c, 5, channel + " 20.10");
         hear(c, channel + " 20.11");
@@ -358,6 +372,14 @@ final class Kit {
     void hard(int c, int code, int ofClass, int method, String... frames) {
         sayDue(c, 6, frames);
         hear(c, "0 10.50 " + code + ":2 ' " + ofClass + ":2 " + method + ":2");
+    }
+
+    /** A HARD error of bytes that are a frame of their own; then the connection is OPEN again, with its channel 1. */
+    void hardOf(int c, int code, int ofClass, int method, byte[] bytes) {
+        due("send(" + c + ") of " + show(bytes), sendBytes(c, bytes), 6);
+        hear(c, "0 10.50 " + code + ":2 ' " + ofClass + ":2 " + method + ":2");
+        sayDue(c, 0, "0 10.51");
+        open(c);
     }
 
     /** A SOFT error on channel 1, which is opened again behind it. */
