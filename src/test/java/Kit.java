@@ -59,7 +59,7 @@ final class Kit {
             type = 8;
         } else if (words[1].equals("B")) {
             type = 3;
-            byte[] body = bytes(text.substring(words[0].length() + 2 + (words.length > 2 ? 1 : 0)));
+            byte[] body = bytes(text.substring(Math.min(text.length(), words[0].length() + 3)));
             payload.write(body, 0, body.length);
             words = new String[] {words[0], "B"};
         } else if (words[1].equals("H")) {
