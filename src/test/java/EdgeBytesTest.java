@@ -273,6 +273,15 @@ public final class EdgeBytesTest {
         }
         k.ask(0, "1 50.50 'q 'e 'k {b=t2,c=Sx,a=I1,a=I1}", "1 50.51");
         k.total(4, others.length);
+        k = fresh("entries that have the same bytes but for how long the name is");
+        k.ask(0, "1 50.20 'q 'e 'k 0 {a=Stx}", "1 50.21");
+        k.ask(0, "1 50.20 'q 'e 'k 0 {aS\0\0\0\2=t120}", "1 50.21");
+        k.total(4, 2);
+        k.publish(0, "e", "", "8:2 {a=Stx}", "x");
+        k.ready("q", 1);
+        k.ask(0, "1 50.50 'q 'e 'k {a=Stx}", "1 50.51");
+        k.publish(0, "e", "", "8:2 {a=Stx}", "x");
+        k.ready("q", 1);
     }
 
     /** Bits that are not told are passed over. */

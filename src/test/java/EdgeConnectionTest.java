@@ -20,6 +20,7 @@ public final class EdgeConnectionTest {
         closeHardFits();
         closeSoftFits();
         answersFit();
+        whatWaitedStays();
         deliveryFits();
         gotFits();
         returnFits();
@@ -421,6 +422,31 @@ public final class EdgeConnectionTest {
         k.total(2, 3);
     }
 
+    /** What does not fit is not sent, not even in part: what waited before is there still, byte by byte. */
+    private static void whatWaitedStays() {
+        for (int room = 0; room <= 12; room++) {
+            Kit k = new Kit("whatWaitedStays " + room);
+            k.open(0);
+            k.stuff(0, room);
+            k.sayDue(0, 0, "1 20.20 1");
+            k.due("the first frame", k.hall.read(0, 8), 0x0100030000000400L);
+            k.due("its end", k.hall.read(0, 4), 0x14000BCEL);
+            k.due("waiting", k.hall.waiting(0), 4988 - room);
+        }
+        for (int room = 0; room <= 46; room += 2) {
+            Kit k = new Kit("whatWaitedStays of a delivery " + room);
+            k.open(0);
+            k.open(1);
+            k.say(0, "1 50.10 'q 16 {}");
+            k.say(1, "1 60.20 'q 'a 8");
+            k.stuff(1, room);
+            k.publish(0, "", "q", "x");
+            k.connected(1, 0, 0);
+            k.due("the first frame", k.hall.read(1, 8), 0x0100030000000400L);
+            k.due("its end", k.hall.read(1, 4), 0x14000BCEL);
+        }
+    }
+
     /** DELIVER, HEADER and BODY are one: 22, 16 and 9 bytes. */
     private static void deliveryFits() {
         for (int room : new int[] {22, 38, 46, 47, 48}) {
@@ -486,7 +512,25 @@ public final class EdgeConnectionTest {
             k.due("waiting", k.hall.waiting(1), 5000 - room + 15 * sent);
             k.total(5, 0);
         }
-        Kit k = new Kit("the one who deletes is closed itself, the others are told");
+        Kit k = new Kit("a second one that would fit is not sent either");
+        k.open(0);
+        k.open(1);
+        k.say(0, "1 50.10 'q 16 {}");
+        k.say(1, "1 60.20 'q 'longer 8", "1 60.20 'q 'b 8");
+        k.stuff(1, 19);
+        k.ask(0, "1 50.40 'q 0", "1 50.41 0:4");
+        k.connected(1, 0, 0);
+        k.due("waiting", k.hall.waiting(1), 4981);
+        k = new Kit("what it gives back goes out with the DISPATCH behind the FRAME");
+        k.open(0);
+        k.open(1);
+        k.say(0, "1 50.10 'q 16 {}", "1 50.10 'r 16 {}");
+        k.say(1, "1 60.20 'r 'mine 8", "1 60.20 'q 'a 8");
+        k.publish(0, "", "r", "x");
+        k.say(0, "1 60.20 'r 'yours 8");
+        k.stuff(1, 14);
+        k.ask(0, "1 50.40 'q 0", "1 50.41 0:4", "1 60.60 'yours 1:4 1 ' 'r", "1 H 60:2 1:4 0:2", "1 B x");
+        k = new Kit("the one who deletes is closed itself, the others are told");
         k.open(0);
         k.open(1);
         k.say(0, "1 50.10 'q 16 {}", "1 60.20 'q 'a 8");

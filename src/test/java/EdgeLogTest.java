@@ -22,6 +22,7 @@ public final class EdgeLogTest {
         comingAtThisTick();
         asTheyWere();
         unackedAreReady();
+        limitsBehindACrash();
         moreThanMaxStays();
         goneAndMadeAgain();
         numbersGoOn();
@@ -444,6 +445,24 @@ public final class EdgeLogTest {
         k.queue(0, 1, 0);
         k.queue(0, 2, 0);
         k.total(1, 3);
+    }
+
+    /** What was UNACKED before a CRASH counts for no limit behind it. */
+    private static void limitsBehindACrash() {
+        for (String limit : new String[] {"1 60.10 1:2 1", "1 60.10 1:2 0"}) {
+            Kit k = with("limitsBehindACrash " + limit, "1 50.10 'q 18 {}", "1 60.20 'q 'c 8");
+            k.publish(0, "", "q", "2:2 1", "x");
+            k.publish(0, "", "q", "2:2 1", "y");
+            k.channel(0, 1, 1, 2);
+            k.crash(99, 2);
+            k.open(0);
+            k.say(0, limit, "1 60.20 'q 'c 8");
+            k.channel(0, 1, 1, 1);
+            k.channel(0, 1, 4, 1);
+            k.say(0, "1 60.80 1:4 0");
+            k.channel(0, 1, 4, 2);
+            k.queue(0, 1, 1);
+        }
     }
 
     /** A CRASH looks at no max; the next one that comes, or is REQUEUED, does. */

@@ -10,6 +10,7 @@ public final class EdgeMessageTest {
         maxWhenRequeued();
         ttlAtItsEdges();
         expirationAtItsEdges();
+        expiredAmongOthers();
         lesserOfBoth();
         expiredWhileUnacked();
         deadWithoutDlx();
@@ -207,6 +208,21 @@ public final class EdgeMessageTest {
         k.ready("q", 3);
         k.tick(100, 102);
         k.ready("q", 3);
+    }
+
+    /** Each of a queue's messages has its own time, wherever it stands. */
+    private static void expiredAmongOthers() {
+        Kit k = with("expiredAmongOthers", "1 50.10 'd 16 {}", "1 50.10 'q 16 {dlx=S,dlk=Sd}");
+        int[] times = {9, 2, 9, 1, 2, 9, 1};
+        for (int i = 0; i < times.length; i++) {
+            k.publish(0, "", "q", "4:2 " + times[i] + ":4", "" + (char) ('a' + i));
+        }
+        k.tick(1, 1);
+        k.ready("q", 5);
+        k.tick(1, 2);
+        k.ready("q", 3);
+        holds(k, "d", "dgbe");
+        holds(k, "q", "acf");
     }
 
     private static void lesserOfBoth() {

@@ -155,6 +155,13 @@ public final class EdgeQueueTest {
         k.total(3, 0);
         k.total(4, 0);
         k.queue(0, 5, 0);
+        k = fresh("its own bindings are gone, wherever they stand among others");
+        k.say(0, "1 50.10 'q 16 {}", "1 40.10 'a 'direct 16 {}", "1 40.10 'b 'direct 16 {}");
+        k.say(0, "1 50.20 'q 'a '1 1 {}", "1 50.20 'q 'b '1 1 {}", "1 50.20 'q 'a '2 1 {}", "1 50.20 'q 'b '2 1 {}", "1 50.20 'q 'b '3 1 {}", "1 50.20 'q 'a '3 1 {}");
+        k.ask(0, "1 40.20 'b 0", "1 40.21");
+        k.total(4, 3);
+        k.queue(0, 5, 3);
+        k.exchange(0, 2, 3);
     }
 
     /** An AUTO-DELETE one is deleted when its last binding goes, by whatever; not ahead of that, nor if it had none. */
