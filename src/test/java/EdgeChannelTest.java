@@ -3,6 +3,8 @@ public final class EdgeChannelTest {
     public static void main(String[] args) {
         openedAnew();
         goneInOrderOfConsumers();
+        goneWithItsAutoDeleteQueue();
+        goneTogether();
         goneInOrderOfTags();
         goneForgets();
         flowHoldsBack();
@@ -113,6 +115,39 @@ public final class EdgeChannelTest {
             k.total(2, 2 - n);
             k.queue(0, 100, n == 0 ? 'a' : n == 1 ? 'b' : -1);
         }
+    }
+
+    /** What is UNACKED of an AUTO-DELETE queue that goes with its last consumer is in no queue any more: it is not REQUEUED. */
+    private static void goneWithItsAutoDeleteQueue() {
+        for (String end : new String[] {"1 20.40 0:2 ' 0:2 0:2", "1 60.80 99:4 0", "0 10.50 0:2 ' 0:2 0:2"}) {
+            Kit k = new Kit("goneWithItsAutoDeleteQueue " + end);
+            k.open(0);
+            k.say(0, "1 50.10 'd 18 {}", "1 50.10 'q 26 {max=I1,dlx=S,dlk=Sd}", "1 60.20 'q 'c 8");
+            k.publish(0, "", "q", "2:2 1", "a");
+            k.publish(0, "", "q", "2:2 1", "b");
+            k.tick(1, 1);
+            k.channel(0, 1, 1, 2);
+            k.say(0, end);
+            k.total(2, 1);
+            k.total(1, 0);
+            k.total(6, 1);
+            k.total(7, 0);
+        }
+    }
+
+    /** Nothing is handed out between one channel and the next that go with their connection. */
+    private static void goneTogether() {
+        Kit k = new Kit("goneTogether");
+        k.open(0);
+        k.openChannel(0, 2);
+        k.say(0, "1 50.10 'q 16 {}", "1 60.20 'q 'a 8", "2 60.20 'q 'b 8");
+        k.publish(0, "", "q", "x");
+        k.readAll(0);
+        k.hall.cut(0);
+        k.hear(0);
+        k.ready("q", 1);
+        k.open(0);
+        k.ask(0, "1 60.70 'q 1", "1 60.71 1:4 1 ' 'q 0:4", "1 H 60:2 1:4 0:2", "1 B x");
     }
 
     /** UNACKED ones are REQUEUED in the order of delivery tags, not of NUMBERS: seen where they are too many. */

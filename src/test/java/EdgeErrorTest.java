@@ -283,6 +283,15 @@ public final class EdgeErrorTest {
             Kit k = in(LIVE, "argumentsAheadOfMeaning");
             k.hard(0, 502, (Integer) row[0], (Integer) row[1], "1 " + row[0] + "." + row[1] + " " + row[2]);
         }
+        Kit k = in(LIVE, "transactions where there are confirms");
+        k.say(0, "1 85.10 1");
+        k.hard(0, 502, 90, 10, "1 90.10 0");
+        k = in(LIVE, "confirms where there are transactions");
+        k.say(0, "1 90.10");
+        k.readAll(0);
+        k.hard(0, 502, 85, 10, "1 85.10");
+        k = in(LIVE, "an exchange of which another one is asked for");
+        k.hard(0, 502, 40, 10, "1 40.10 'e 'fanout 0 {} 0");
     }
 
     /** HARD: the channels are GONE, EXCLUSIVE queues deleted, STATE 6; other connections go on. */

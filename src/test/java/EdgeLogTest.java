@@ -31,6 +31,7 @@ public final class EdgeLogTest {
         tickMakesSafeFirst();
         recordsWithinATick();
         ticksOneByOne();
+        expiredAheadOfConnections();
         confirmsAheadOfTheClock();
         Kit.end();
     }
@@ -651,6 +652,31 @@ public final class EdgeLogTest {
         k.tick(1, 4);
         k.ready("q", 0);
         k.total(7, 4);
+    }
+
+    /** EXPIRED ones are DEAD ahead of what connections that are closed give back: that goes with the next tick. */
+    private static void expiredAheadOfConnections() {
+        for (boolean taken : new boolean[] {false, true}) {
+            Kit k = new Kit("expiredAheadOfConnections " + taken);
+            k.open(0);
+            k.open(1, 1);
+            k.openChannel(1, 1);
+            k.say(0, "1 50.10 'q 16 {ttl=I1}");
+            k.publish(0, "", "q", "x");
+            k.say(1, "1 60.70 'q 0");
+            k.say(0, taken ? "1 60.20 'q 'c 8" : "0 8");
+            k.readAll(1);
+            k.tick(1, 1);
+            k.connected(1, 0, 5);
+            k.queue(0, 1, 1);
+            k.tick(1, 2);
+            k.connected(1, 0, 0);
+            k.total(7, 0);
+            k.queue(0, taken ? 1 : 0, 1);
+            k.hear(0, taken ? new String[] {"1 60.60 'c 1:4 1 ' 'q", "1 H 60:2 1:4 0:2", "1 B x"} : new String[0]);
+            k.tick(1, 3);
+            k.total(7, taken ? 0 : 1);
+        }
     }
 
     /** Confirms are sent before the clock grows, so that a HEARTBEAT of 1 is due in the same tick. */

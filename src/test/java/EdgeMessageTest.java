@@ -334,17 +334,29 @@ public final class EdgeMessageTest {
         k.ready("q", 1);
     }
 
-    /** DISPATCH: the DEAD that wait are BURIED ahead of any DELIVER. */
+    /** DISPATCH: the DEAD that wait are BURIED, all of them, ahead of any DELIVER. */
     private static void buriedBeforeDelivery() {
-        Kit k = with("buriedBeforeDelivery", "1 50.10 'a 16 {}", "1 50.10 'q 16 {max=I1,dlx=S,dlk=Sa}", "1 20.20 0", "1 60.20 'q 'x 8", "1 60.20 'a 'y 8");
+        Kit k = with("buriedBeforeDelivery", "1 50.10 'a 16 {}", "1 50.10 'q 16 {dlx=S,dlk=Sa}", "1 60.20 'a 'y 8", "1 60.10 1:2 0", "1 60.20 'q 'x 8");
         k.publish(0, "", "q", "1");
         k.publish(0, "", "q", "2");
         k.readAll(0);
-        k.ask(0, "1 20.20 1", "1 20.21 1", "1 60.60 'y 1:4 0 ' 'a", "1 H 60:2 1:4 0:2", "1 B 1", "1 60.60 'x 2:4 0 ' 'q", "1 H 60:2 1:4 0:2", "1 B 2");
-        k.publish(0, "", "q", "3");
+        k.ask(0, "1 60.90 1:4 0", "1 60.60 'y 2:4 0 ' 'a", "1 H 60:2 1:4 0:2", "1 B 1", "1 60.60 'x 3:4 0 ' 'q", "1 H 60:2 1:4 0:2", "1 B 2");
+        k = with("all of them", "1 50.10 'a 16 {max=I1}", "1 50.10 'q 16 {dlx=S,dlk=Sa}", "1 60.20 'a 'y 8");
+        k.publish(0, "", "q", "1");
+        k.publish(0, "", "q", "2");
+        k.say(0, "1 60.70 'q 0", "1 60.70 'q 0");
         k.readAll(0);
-        k.say(0, "1 60.90 3:4 0");
-        k.hear(0, "1 60.60 'y 4:4 0 ' 'a", "1 H 60:2 1:4 0:2", "1 B 3");
+        k.ask(0, "1 60.120 0:4 1", "1 60.60 'y 3:4 0 ' 'a", "1 H 60:2 1:4 0:2", "1 B 2");
+        k.total(7, 3);
+        k = with("also those that are DEAD by another one's burial", "1 50.10 'a 16 {max=I1,dlx=S,dlk=Sb}", "1 50.10 'b 16 {max=I1}", "1 50.10 'q 16 {dlx=S,dlk=Sa}",
+                "1 60.20 'a 'y 8", "1 60.20 'b 'z 8");
+        for (int i = 1; i <= 4; i++) {
+            k.publish(0, "", "q", "" + i);
+            k.say(0, "1 60.70 'q 0");
+        }
+        k.readAll(0);
+        k.ask(0, "1 60.120 0:4 1", "1 60.60 'y 5:4 0 ' 'a", "1 H 60:2 1:4 0:2", "1 B 4", "1 60.60 'z 6:4 0 ' 'b", "1 H 60:2 1:4 0:2", "1 B 3");
+        k.total(7, 4 + 3 + 2);
     }
 
     private static void buriedFirstInFirst() {
