@@ -454,7 +454,7 @@ public final class EdgeCallTest {
                 k.say(0, "1 50.10 'q 18 {}", "1 60.20 'q 'c 8", mode);
                 k.publish(0, "", "q", "2:2 1", "x");
                 boolean transactions = mode.startsWith("1 90");
-                k.say(0, "1 90.20".replace("1 90.20", transactions ? "1 90.20" : "0 8"));
+                k.say(0, transactions ? "1 90.20" : "0 8");
                 k.publish(0, "", "q", "x");
                 k.channel(0, 1, 1, transactions ? 1 : 2);
                 k.channel(0, 1, 2, transactions ? 1 : 0);

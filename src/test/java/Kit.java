@@ -278,10 +278,14 @@ final class Kit {
 
     /** A queue by its name, since its place changes. */
     int place(String queue) {
-        for (int k = 0; k < hall.total(2); k++) {
+        int queues = hall.total(2);
+        calls++;
+        for (int k = 0; k < queues; k++) {
             boolean same = hall.queue(k, 4) == queue.length();
+            calls++;
             for (int i = 0; i < queue.length() && same; i++) {
                 same = hall.queue(k, 100 + i) == queue.charAt(i);
+                calls++;
             }
             if (same) {
                 return k;
