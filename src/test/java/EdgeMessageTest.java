@@ -38,6 +38,7 @@ public final class EdgeMessageTest {
         alternateThatIsNot();
         publishLooksAtOnce();
         publishWhereItWas();
+        publishWhereItIsAgain();
         returnOnlyIfMandatory();
         returnTells();
         flagsOfTheHall();
@@ -740,6 +741,27 @@ public final class EdgeMessageTest {
         k.ask(0, "2 50.20 'q 'e ' 1 {}");
         k.ask(0, "1 B x");
         k.total(1, 1);
+    }
+
+    /** An exchange is known by its name: one that was made again, even as another kind, is there still. */
+    private static void publishWhereItIsAgain() {
+        for (boolean kept : new boolean[] {false, true}) {
+            Kit k = with("publishWhereItIsAgain " + kept, "1 50.10 'q 16 {}", "1 40.10 'e 'direct 16 {}");
+            k.openChannel(0, 2);
+            if (kept) {
+                k.ask(0, "1 90.10", "1 90.11");
+            }
+            k.say(0, "1 60.40 'e 'k 1", "1 H 60:2 1:4 0:2");
+            if (kept) {
+                k.say(0, "1 B x");
+            }
+            k.ask(0, "2 40.20 'e 2");
+            k.ask(0, "2 40.10 'e 'fanout 24 {}");
+            k.ask(0, "2 50.20 'q 'e ' 1 {}");
+            k.ask(0, kept ? "1 90.20" : "1 B x", kept ? new String[] {"1 90.21"} : new String[0]);
+            k.queue(0, 0, 1);
+            k.ask(0, "2 60.70 'q 1", "2 60.71 1:4 0 'e 'k 0:4", "2 H 60:2 1:4 0:2", "2 B x");
+        }
     }
 
     private static void returnOnlyIfMandatory() {
