@@ -150,6 +150,9 @@ public final class EdgeConsumerTest {
         k = with("one that was not made so is passed over when its turn comes", "1 60.20 'q ' 8", "1 60.20 'q 'ctag-3 8");
         k.ask(0, "1 60.20 'q ' 0", "1 60.21 'ctag-2");
         k.ask(0, "1 60.20 'q ' 0", "1 60.21 'ctag-4");
+        k = with("one that was not made so does not count when it is gone", "1 60.20 'q 'ctag-1 8", "1 60.20 'q 'ctag-2 8", "1 60.30 'ctag-1 1");
+        k.ask(0, "1 60.20 'q ' 0", "1 60.21 'ctag-1");
+        k.ask(0, "1 60.20 'q ' 0", "1 60.21 'ctag-3");
     }
 
     private static void madeTagsAreOfTheChannel() {

@@ -268,6 +268,10 @@ public final class EdgeQueueTest {
         k = fresh("a name that is not just so is none of these");
         k.say(0, "1 50.10 'gen-01 16 {}", "1 50.10 'gen-1x 16 {}", "1 50.10 'Gen-1 16 {}", "1 50.10 'gen- 16 {}", "1 50.10 'gen-0 16 {}");
         k.ask(0, "1 50.10 ' 0 {}", "1 50.11 'gen-1 0:4 0:4");
+        k = fresh("a queue that was not so made is none of these");
+        k.say(0, "1 50.10 'gen-1 16 {}", "1 50.10 'gen-2 16 {}", "1 50.40 'gen-1 4");
+        k.ask(0, "1 50.10 ' 0 {}", "1 50.11 'gen-1 0:4 0:4");
+        k.ask(0, "1 50.10 ' 0 {}", "1 50.11 'gen-3 0:4 0:4");
     }
 
     private static void numbersGoUpOnlyWithQueues() {
@@ -363,6 +367,8 @@ public final class EdgeQueueTest {
         k.soft(1, 405, 50, 10, "1 50.10 'own 1 {}");
         k.soft(0, 404, 50, 10, "1 50.10 'Q 1 {}");
         k.soft(0, 404, 50, 10, "1 50.10 'Q 17 {max=I0}");
+        k.soft(0, 404, 50, 10, "1 50.10 ' 1 {}");
+        k.ask(0, "1 50.10 'q 17 {}");
         k.soft(0, 404, 50, 10, "1 50.10 ' 1 {}");
         k.total(2, 2);
         k.queue(0, 3, 2);
